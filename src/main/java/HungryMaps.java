@@ -601,38 +601,42 @@ public final class HungryMaps {
             faultPlace = NONE;
             boolean isFine = true;
             for (int lines = 0; isFine && lines < tape.tokens && kind() != END; lines++) {
-                isFine = readLine();
+                int first = kind();
+                if (!house.hasRoomFor(first)) {
+                    return blame(FAULT_STAND);
+                }
+                at++;
+                switch (first) {
+                    case W_FOOD:
+                        isFine = foodLine();
+                        break;
+                    case W_MAP:
+                        isFine = mapLine();
+                        break;
+                    case W_PLACE:
+                        isFine = placeLine();
+                        break;
+                    case W_LIKES:
+                        isFine = likesLine();
+                        break;
+                    case W_BORDER:
+                        isFine = borderLine();
+                        break;
+                    case W_TASTE:
+                        house.isTasteTold = true;
+                        isFine = formula(MAPS);
+                        break;
+                    case W_WINTER:
+                        house.isWinterTold = true;
+                        house.first.cells[COLD] = 1;
+                        break;
+                    default:
+                        isFine = drawLine();
+                        break;
+                }
+                isFine = isFine && take(';');
             }
             return isFine;
-        }
-
-        private boolean readLine() {
-            int first = kind();
-            if (!house.hasRoomFor(first)) {
-                return refuse();
-            }
-            at++;
-            switch (first) {
-                case W_FOOD:
-                    return foodLine();
-                case W_MAP:
-                    return mapLine();
-                case W_PLACE:
-                    return placeLine();
-                case W_LIKES:
-                    return likesLine();
-                case W_BORDER:
-                    return borderLine();
-                case W_TASTE:
-                    house.isTasteTold = true;
-                    return formula(MAPS) && take(';');
-                case W_WINTER:
-                    house.isWinterTold = true;
-                    house.first.cells[COLD] = 1;
-                    return take(';');
-                default:
-                    return drawLine();
-            }
         }
 
         private boolean foodLine() {
@@ -645,7 +649,7 @@ public final class HungryMaps {
             }
             house.first.cells[STORE + house.foods] = amount;
             house.foods++;
-            return take(';');
+            return true;
         }
 
         private boolean mapLine() {
@@ -672,7 +676,7 @@ public final class HungryMaps {
             house.scales[map] = scale;
             house.first.cells[DRAWER + map] = drawer;
             house.maps++;
-            return take(';');
+            return true;
         }
 
         private boolean placeLine() {
@@ -691,7 +695,7 @@ public final class HungryMaps {
             house.first.cells[SIZE + place] = size;
             house.worths[place] = worth;
             house.places++;
-            return take(';');
+            return true;
         }
 
         private boolean mapsOfPlace(int place) {
@@ -732,7 +736,7 @@ public final class HungryMaps {
             }
             house.likingsTold |= 1 << pair;
             house.liking[pair] = liking;
-            return take(';');
+            return true;
         }
 
         private boolean borderLine() {
@@ -752,7 +756,7 @@ public final class HungryMaps {
             house.neighbours[one] |= 1 << other;
             house.neighbours[other] |= 1 << one;
             house.borders++;
-            return take(';');
+            return true;
         }
 
         private boolean drawLine() {
@@ -762,7 +766,7 @@ public final class HungryMaps {
             }
             house.isDrawTold = true;
             house.first.cells[SEED] = seed;
-            return take(';');
+            return true;
         }
 
         private boolean formula(int index) {
@@ -780,7 +784,7 @@ public final class HungryMaps {
             int tightest = TERM_LEVEL;
             if (kind() == W_NOT && level <= ONE_LEVEL) {
                 if (depth >= DEEPEST) {
-                    return refuse();
+                    return blame(FAULT_STAND);
                 }
                 at++;
                 if (!climb(ONE_LEVEL, depth + 1)) {
@@ -812,13 +816,13 @@ public final class HungryMaps {
             int kind = kind();
             boolean isVariable = kind >= W_SCALE && kind <= W_HOLES;
             if (kind != NUMBER && kind != '(' && !isVariable) {
-                return refuse();
+                return blame(FAULT_STAND);
             }
             if (unitsHere >= UNITS_IN_ONE || house.formulas.units >= UNITS_IN_ALL) {
-                return refuse();
+                return blame(FAULT_STAND);
             }
             if (kind == '(' && depth >= DEEPEST) {
-                return refuse();
+                return blame(FAULT_STAND);
             }
             unitsHere++;
             house.formulas.units++;
@@ -855,7 +859,7 @@ public final class HungryMaps {
 
         private boolean newName(long[] names, int count) {
             if (kind() != NAME) {
-                return refuse();
+                return blame(FAULT_STAND);
             }
             if (indexOf(names, count) >= 0) {
                 return blame(FAULT_TWICE);
@@ -870,7 +874,7 @@ public final class HungryMaps {
         /** The number of the thing that bears the name here; NONE, with a fault, if there is none. */
         private int knownName(long[] names, int count) {
             if (kind() != NAME) {
-                refuse();
+                blame(FAULT_STAND);
                 return NONE;
             }
             int index = indexOf(names, count);
@@ -892,7 +896,7 @@ public final class HungryMaps {
         /** The number here; NONE, with a fault, if it is none or can't be. */
         private int number(int low, int high) {
             if (kind() != NUMBER) {
-                refuse();
+                blame(FAULT_STAND);
                 return NONE;
             }
             int number = (int) value();
@@ -906,7 +910,7 @@ public final class HungryMaps {
 
         private boolean take(int kind) {
             if (kind() != kind) {
-                return refuse();
+                return blame(FAULT_STAND);
             }
             at++;
             return true;
@@ -920,13 +924,11 @@ public final class HungryMaps {
             return at >= 0 && at < tape.tokens ? tape.values[at] : 0;
         }
 
-        private boolean refuse() {
-            return blame(kind() == BAD ? FAULT_TOKEN : FAULT_STAND);
-        }
-
+        /** Tells the fault at the token here; where there is none, that is the fault. Always false. */
         private boolean blame(int fault) {
-            faultKind = fault;
-            faultPlace = at >= 0 && at < tape.tokens ? tape.starts[at] : tape.length;
+            boolean isToken = at >= 0 && at < tape.tokens;
+            faultKind = isToken && tape.kinds[at] == BAD ? FAULT_TOKEN : fault;
+            faultPlace = isToken ? tape.starts[at] : tape.length;
             return false;
         }
     }
@@ -977,51 +979,51 @@ public final class HungryMaps {
             for (int i = from[index]; i < to[index] && i < code.length; i++) {
                 int entry = code[i];
                 int kind = -entry;
-                if (entry >= 0) {
-                    top = push(top, entry);
-                } else if (kind >= W_SCALE && kind <= W_HOLES) {
-                    top = push(top, inputs[kind - W_SCALE]);
+                boolean isVariable = kind >= W_SCALE && kind <= W_HOLES;
+                if ((entry >= 0 || isVariable) && top < stack.length) {
+                    stack[top] = isVariable ? inputs[kind - W_SCALE] : entry;
+                    top++;
                 } else if (kind == W_NOT && top >= 1) {
                     stack[top - 1] = stack[top - 1] == 0 ? 1 : 0;
                 } else if (top >= 2) {
                     top--;
-                    stack[top - 1] = join(kind, stack[top - 1], stack[top]);
+                    int a = stack[top - 1];
+                    int b = stack[top];
+                    switch (kind) {
+                        case '+':
+                            stack[top - 1] = a + b;
+                            break;
+                        case '-':
+                            stack[top - 1] = a - b;
+                            break;
+                        case '*':
+                            stack[top - 1] = a * b;
+                            break;
+                        case '/':
+                            stack[top - 1] = b == 0 ? 0 : a / b;
+                            break;
+                        case '%':
+                            stack[top - 1] = b == 0 ? 0 : a % b;
+                            break;
+                        case '<':
+                            stack[top - 1] = a < b ? 1 : 0;
+                            break;
+                        case '>':
+                            stack[top - 1] = a > b ? 1 : 0;
+                            break;
+                        case '=':
+                            stack[top - 1] = a == b ? 1 : 0;
+                            break;
+                        case W_AND:
+                            stack[top - 1] = a != 0 && b != 0 ? 1 : 0;
+                            break;
+                        default:
+                            stack[top - 1] = a != 0 || b != 0 ? 1 : 0;
+                            break;
+                    }
                 }
             }
             return top > 0 ? stack[top - 1] : 0;
-        }
-
-        private int push(int top, int value) {
-            if (top >= stack.length) {
-                return top;
-            }
-            stack[top] = value;
-            return top + 1;
-        }
-
-        private static int join(int sign, int a, int b) {
-            switch (sign) {
-                case '+':
-                    return a + b;
-                case '-':
-                    return a - b;
-                case '*':
-                    return a * b;
-                case '/':
-                    return b == 0 ? 0 : a / b;
-                case '%':
-                    return b == 0 ? 0 : a % b;
-                case '<':
-                    return a < b ? 1 : 0;
-                case '>':
-                    return a > b ? 1 : 0;
-                case '=':
-                    return a == b ? 1 : 0;
-                case W_AND:
-                    return a != 0 && b != 0 ? 1 : 0;
-                default:
-                    return a != 0 || b != 0 ? 1 : 0;
-            }
         }
     }
 
@@ -1110,12 +1112,8 @@ public final class HungryMaps {
             if ((state.cells[FOLDED] >> map & 1) != 0) {
                 return 0;
             }
-            Formulas formulas = house.formulas;
-            setMapInputs(state, map);
-            formulas.inputs[W_SIZE - W_SCALE] = 0;
-            formulas.inputs[W_WORTH - W_SCALE] = 0;
-            formulas.inputs[W_HOLES - W_SCALE] = 0;
-            int own = Math.min(MOST_HUNGER, Math.max(0, formulas.valueOf(map)));
+            setInputs(state, map, 0, 0, 0);
+            int own = Math.min(MOST_HUNGER, Math.max(0, house.formulas.valueOf(map)));
             return Math.min(MOST_HUNGER, own + 2 * bitingBorders(state, map));
         }
 
@@ -1148,20 +1146,19 @@ public final class HungryMaps {
             if (!house.isTasteTold) {
                 return state.cells[SIZE + place];
             }
-            setMapInputs(state, map);
-            int[] inputs = house.formulas.inputs;
-            inputs[W_SIZE - W_SCALE] = state.cells[SIZE + place];
-            inputs[W_WORTH - W_SCALE] = house.worths[place];
-            inputs[W_HOLES - W_SCALE] = state.cells[HOLES + place];
+            setInputs(state, map, state.cells[SIZE + place], house.worths[place], state.cells[HOLES + place]);
             return house.formulas.valueOf(MAPS);
         }
 
-        private void setMapInputs(State state, int map) {
+        private void setInputs(State state, int map, int size, int worth, int holes) {
             int[] inputs = house.formulas.inputs;
-            inputs[0] = house.scales[map];
+            inputs[W_SCALE - W_SCALE] = house.scales[map];
             inputs[W_YEAR - W_SCALE] = state.cells[YEAR];
             inputs[W_EATEN - W_SCALE] = state.cells[EATEN + map];
             inputs[W_COLD - W_SCALE] = state.cells[COLD];
+            inputs[W_SIZE - W_SCALE] = size;
+            inputs[W_WORTH - W_SCALE] = worth;
+            inputs[W_HOLES - W_SCALE] = holes;
         }
 
         void passYear(State state) {
@@ -1371,24 +1368,20 @@ public final class HungryMaps {
             int there = ~engine.goneIn(now);
             int folded = now.cells[FOLDED];
             int sets = 1 << engine.house.maps;
+            State start = desk[1];
             for (int count = 0; count <= MAPS; count++) {
                 for (int set = 0; set < sets; set++) {
                     if ((set & folded) != 0 || Integer.bitCount(set) != count) {
                         continue;
                     }
-                    if ((engine.goneIn(afterFolding(now, set, years)) & there) == 0) {
+                    start.copyFrom(now);
+                    start.cells[FOLDED] |= set;
+                    if ((engine.goneIn(after(start, years)) & there) == 0) {
                         return set;
                     }
                 }
             }
             return NONE;
-        }
-
-        private State afterFolding(State now, int set, int years) {
-            State start = desk[1];
-            start.copyFrom(now);
-            start.cells[FOLDED] |= set;
-            return after(start, years);
         }
 
         /** In how many of the even ways of the winters to come a place stands behind the years. */

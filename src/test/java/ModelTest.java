@@ -159,7 +159,9 @@ public final class ModelTest {
     for (int i = 0; i < foods; i++) s.append("food ").append(FOODS[i]).append(' ').append(below(once(3) ? 100 : 13)).append(";");
     for (int i = 0; i < maps; i++) {
       s.append("map ").append(MAPS[i]).append(" scale ").append(1 + below(9)).append(" hunger ");
-      if (once(3)) s.append(below(30)); else e(s, 0, false);
+      if (once(3)) s.append(below(30));
+      else if (once(3)) s.append("cold*").append(1 + below(9)).append("+").append(below(6));
+      else e(s, 0, false);
       if (once(3)) s.append(" in ").append(below(4));
       if (once(8)) s.append(" folded");
       s.append(";\n");

@@ -180,6 +180,14 @@ public final class QuestionsTest {
     HungryMaps v = Texts.house("food f 9;map a scale 1 hunger 4;map b scale 1 hunger 3;place p size 9 worth 1 on a;place q size 9 worth 1 on b;");
     Texts.due("each its own", v.ration(0, 3), 7);
     lies(v, "each its own", 4, 3);
+    // b makes p as big again only if fed 60 beyond what it gets, as a bites all of it.
+    HungryMaps u = Texts.house("food f 30;map a scale 1 hunger 99;map b scale 1 hunger 9;place p size 60 worth 1 on a b;likes a f 0;likes b f 9;");
+    Texts.due("8 times 9 is 9 and 63", u.ration(0, 1), 8);
+    lies(u, "b alone", 0, 8);
+    u.give(1, 0, 3);
+    Texts.due("with 3 in the trough", u.ration(0, 1), 5);
+    u.give(1, 0, 6);
+    Texts.due("it has enough", u.ration(0, 1), 0);
     HungryMaps z = Texts.house("food f 9;");
     Texts.due("no maps", z.ration(0, 0), 0);
     lies(z, "no maps");
@@ -256,10 +264,17 @@ public final class QuestionsTest {
     Texts.due("three", x.drawers(3), 3 * 2 * 2 * 3);
     Texts.due("four", x.drawers(4), 4 * 3 * 3 * 4);
     lies(x, "the first of four", 0, 0, 1, 0);
+    Texts.due("one again", x.drawers(1), 0);
+    lies(x, "behind 0, what lay there is gone");
+    x.drawers(2);
     Texts.due("five", x.drawers(5), -1);
     Texts.due("none", x.drawers(0), -1);
     Texts.due("-1", x.drawers(-1), -1);
+    lies(x, "what lay there stays", 0, 0, 1, 0);
     Texts.due("least", x.least(), 2);
+    HungryMaps one = Texts.house("map a scale 1 hunger 1;");
+    Texts.due("one map, one way", one.drawers(1), 1);
+    lies(one, "one map", 0);
     String maps = "map a scale 1 hunger 1;map b scale 1 hunger 1;map c scale 1 hunger 1;map d scale 1 hunger 1;";
     HungryMaps y = Texts.house(maps + "border a b;border a c;border a d;border b c;border b d;border c d;");
     Texts.due("all with all, 3", y.drawers(3), 0);

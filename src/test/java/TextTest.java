@@ -5,8 +5,10 @@ public final class TextTest {
   public static void main(String[] args) {
     newObject();
     feeding();
+    fullTape();
     ending();
     housing();
+    housingAgain();
     faultAnswers();
     tokens();
     lines();
@@ -30,6 +32,17 @@ public final class TextTest {
     Texts.due("new fault 0", x.fault(0), 0);
     Texts.due("new fault 1", x.fault(1), -1);
     Texts.due("new lies", x.lies(0), -1);
+  }
+
+  private static void fullTape() {
+    StringBuilder s = new StringBuilder("taste 1;");
+    while (s.length() < 1600) s.append(';');
+    Texts.fault(s.toString(), 2, 8);
+    StringBuilder t = new StringBuilder("draw 1;");
+    while (t.length() < 1593) t.append(' ');
+    Texts.fault(t + "winter;", 0, -1);
+    Texts.fault(t + "  winte", 2, 1595);
+    Texts.fault(t + " winter", 2, 1600);
   }
 
   private static void feeding() {
@@ -116,6 +129,35 @@ public final class TextTest {
     Texts.due("not in winter", x.about(5), 0);
   }
 
+  /** Nothing of an earlier house, a faulty one or one before the last, stays in a later one. */
+  private static void housingAgain() {
+    String rich = "food f 9;food g 8;map a scale 3 hunger 9+year in 2 folded;map b scale 2 hunger 7 in 3;place p size 9 worth 9 on a b;"
+        + "place q size 8 worth 8 on b;likes a f 5;likes b g 0;border a b;taste 0-size;winter;draw 9;";
+    String plain = "food f 1;food g 1;map a scale 1 hunger 2;map b scale 1 hunger 2;place p size 3 worth 1 on a;place q size 4 worth 1 on b;";
+    HungryMaps x = Texts.house(rich);
+    for (int turn = 0; turn < 3; turn++) {
+      Texts.feed(x, turn == 1 ? rich + "food f" : "winter");
+      Texts.due("faulty", x.house(), -1);
+      x.end(0);
+      Texts.feed(x, plain);
+      Texts.due("plain", x.house(), 2);
+      int[][] maps = {{1, 2, 0, 0, 0, 0, 1, 0}, {1, 2, 0, 0, 0, 0, 2, 0}};
+      for (int m = 0; m < 2; m++) for (int what = 0; what < 8; what++) Texts.due("map " + m + " " + what, x.map(m, what), maps[m][what]);
+      int[] about = {2, 2, 2, 0, 0, 0, 0, 0, 0, 0, 0, 0, 0, 2, 0};
+      for (int what = 0; what < 15; what++) Texts.due("about " + what, x.about(what), about[what]);
+      Texts.due("maps of p", x.place(0, 3), 1);
+      Texts.due("taste", x.taste(1, 1), 4);
+      Texts.due("likes a f", x.likes(0, 0), 1);
+      Texts.due("likes b g", x.likes(1, 1), 1);
+      Texts.feed(x, rich);
+      Texts.due("rich", x.house(), 2);
+      Texts.due("likes a f", x.likes(0, 0), 5);
+      Texts.due("taste", x.taste(1, 1), -8);
+      Texts.due("units", x.about(13), 5);
+      x.year();
+    }
+  }
+
   private static void faultAnswers() {
     HungryMaps x = new HungryMaps();
     Texts.feed(x, "food ?");
@@ -198,6 +240,9 @@ public final class TextTest {
     for (char c = 'a'; c <= 'h'; c++) places.append("place ").append(c).append(" size 1 worth 1 on a;");
     Texts.fault(places.toString(), 0, -1);
     Texts.fault(places + "place", 2, places.length());
+    Texts.due("on all maps", Texts.house(maps + "place p size 1 worth 1 on d b a c;").place(0, 3), 15);
+    Texts.fault(maps + "place p size 1 worth 1 on d b a c a;", 3, 92 + 34);
+    Texts.fault(maps + "place p size 1 worth 1 on d b a c e;", 5, 92 + 34);
     StringBuilder likes = new StringBuilder("food x 1;food y 1;food z 1;" + maps);
     for (char m = 'a'; m <= 'd'; m++) for (char f = 'x'; f <= 'z'; f++) likes.append("likes ").append(m).append(' ').append(f).append(" 2;");
     Texts.fault(likes.toString(), 0, -1);
@@ -231,6 +276,7 @@ public final class TextTest {
     Texts.fault("map a scale 9 hunger 9999;", 0, -1);
     Texts.fault("map a scale 10 hunger 1;", 4, 12);
     Texts.fault("map a scale 1 hunger 1 in 3;", 0, -1);
+    Texts.fault("map a scale 1 hunger 1 in 0;", 0, -1);
     Texts.fault("map a scale 1 hunger 1 in 4;", 4, 26);
     Texts.fault(MAPS + "place p size 0 worth 1 on a;", 4, 46 + 13);
     Texts.fault(MAPS + "place p size 60 worth 0 on a;", 0, -1);

@@ -27,6 +27,7 @@ public final class TrialsTest {
     Texts.due("none told", x.about(10), 0);
     Texts.due("the first", x.trial(0, 0, 0, 1, false), 0);
     Texts.due("the second", x.trial(9, 9, 9, 99, false), 1);
+    Texts.due("the third is none yet", x.untell(2), false);
     x.untell(1);
     for (int i = 2; i < 30; i++) Texts.due("trial " + i, x.trial(1, 1, 1, 99, false), i);
     Texts.due("there are 30", x.trial(1, 1, 1, 99, false), -1);
@@ -123,6 +124,8 @@ public final class TrialsTest {
     // 9 * 5 = 45: only 5 is enough.
     Texts.due("hunger 45", x.ask(45, 0, 0), 9);
     Texts.due("hunger 45 left", x.ask(45, 1, 0), 30);
+    Texts.due("hunger 46: 9 are not enough", x.ask(46, 0, 0), 1);
+    Texts.due("hunger 46 left", x.ask(46, 1, 0), 36);
     Texts.due("hunger 0", x.ask(0, 0, 0), -1);
     Texts.due("hunger 100", x.ask(100, 0, 0), -1);
     Texts.due("what 2", x.ask(1, 2, 0), -1);
