@@ -1410,6 +1410,7 @@ public final class HungryMaps {
     /** Searches over ways to feed and to put away; the way that is found lies in the heap. */
     private static final class Rations {
         private static final int MOST_TOGETHER = 24;
+        private static final int NEVER = 1000;
 
         final Engine engine;
         final int[] heap = new int[MAPS];
@@ -1418,8 +1419,8 @@ public final class HungryMaps {
         final State[] desk = new State[MAPS + 1];
         final int[] hungers = new int[MAPS];
         final int[] mostUse = new int[MAPS];
-        // Places that map m or one behind it may still make bigger.
-        final int[] mendable = new int[MAPS + 1];
+        // How much each must get at least to make a place bigger.
+        final int[] toMend = new int[MAPS];
         final int[] way = new int[MAPS];
         final int[] tried = new int[MAPS];
         int food = 0;
@@ -1437,7 +1438,7 @@ public final class HungryMaps {
             prepare(now, ofFood);
             spared = places;
             int most = Math.min(MOST_TOGETHER, now.cells[STORE + food]);
-            int useful = boundUse(most);
+            int useful = boundUse();
             for (int together = 0; together <= most && together <= useful; together++) {
                 if (findSparing(0, together)) {
                     layWay();
@@ -1463,25 +1464,40 @@ public final class HungryMaps {
         }
 
         /** How much of the food can change anything, with bounds for each map that cut the search short. */
-        private int boundUse(int most) {
-            int maps = engine.house.maps;
+        private int boundUse() {
             int sum = 0;
-            mendable[maps] = 0;
-            for (int map = maps - 1; map >= 0; map--) {
+            for (int map = 0; map < engine.house.maps; map++) {
                 int liking = engine.house.liking[map * FOODS + food];
                 int lack = hungers[map] - engine.givenTo(desk[0], map);
                 // Beyond this the place that grows is full, whatever its size was.
                 int room = lack + MOST_SIZE;
                 mostUse[map] = liking <= 0 || room <= 0 ? 0 : (room + liking - 1) / liking;
                 sum += mostUse[map];
-                mendable[map] = mendable[map + 1] | (liking * most > lack ? engine.house.mapPlaces[map] : 0);
+                if (lack < 0) {
+                    toMend[map] = 0;
+                } else {
+                    toMend[map] = liking <= 0 ? NEVER : lack / liking + 1;
+                }
             }
             return sum;
         }
 
+        /** Whether the maps from this one on can make all that was lost big again: each makes but one place bigger. */
+        private boolean canMend(int lost, int map, int left) {
+            int within = 0;
+            int menders = 0;
+            for (int i = map; i < engine.house.maps; i++) {
+                if (toMend[i] <= left) {
+                    within |= engine.house.mapPlaces[i];
+                    menders++;
+                }
+            }
+            return (lost & ~within) == 0 && Integer.bitCount(lost) <= menders;
+        }
+
         private boolean findSparing(int map, int left) {
             int lost = engine.smaller(desk[0], desk[map]) & spared;
-            if ((lost & ~mendable[map]) != 0) {
+            if (!canMend(lost, map, left)) {
                 return false;
             }
             if (map >= engine.house.maps) {

@@ -4,6 +4,7 @@ import java.nio.charset.StandardCharsets;
 final class Texts {
   private static int wrong = 0;
   private static int checked = 0;
+  private static String sentence = "";
 
   private Texts() { }
 
@@ -31,11 +32,14 @@ final class Texts {
     return x;
   }
 
+  /** The words of the document that the answers from here on are due by. */
+  static void by(String words) { sentence = words + ": "; }
+
   static void due(String call, long got, long want) {
     checked++;
     if (got != want) {
       wrong++;
-      if (wrong <= 50) System.out.println(call + " answered " + got + ", due is " + want);
+      if (wrong <= 50) System.out.println(sentence + call + " answered " + got + ", due is " + want);
     }
   }
 
