@@ -1425,6 +1425,7 @@ public final class HungryMaps {
         final int[] tried = new int[MAPS];
         int food = 0;
         int spared = 0;
+        int fewestYet = 0;
         int bestLand = NONE;
 
         Rations(Engine engine) {
@@ -1436,16 +1437,12 @@ public final class HungryMaps {
 
         int fewest(State now, int ofFood, int places) {
             prepare(now, ofFood);
+            boundUse();
             spared = places;
             int most = Math.min(MOST_TOGETHER, now.cells[STORE + food]);
-            int useful = boundUse();
-            for (int together = 0; together <= most && together <= useful; together++) {
-                if (findSparing(0, together)) {
-                    layWay();
-                    return together;
-                }
-            }
-            return NONE;
+            fewestYet = most + 1;
+            findSparing(0, 0);
+            return fewestYet > most ? NONE : fewestYet;
         }
 
         int mostKept(State now, int ofFood, int n) {
@@ -1463,23 +1460,20 @@ public final class HungryMaps {
             }
         }
 
-        /** How much of the food can change anything, with bounds for each map that cut the search short. */
-        private int boundUse() {
-            int sum = 0;
+        /** For each map how much of the food can change anything, and from how much on it makes a place bigger. */
+        private void boundUse() {
             for (int map = 0; map < engine.house.maps; map++) {
                 int liking = engine.house.liking[map * FOODS + food];
                 int lack = hungers[map] - engine.givenTo(desk[0], map);
                 // Beyond this the place that grows is full, whatever its size was.
                 int room = lack + MOST_SIZE;
                 mostUse[map] = liking <= 0 || room <= 0 ? 0 : (room + liking - 1) / liking;
-                sum += mostUse[map];
                 if (lack < 0) {
                     toMend[map] = 0;
                 } else {
                     toMend[map] = liking <= 0 ? NEVER : lack / liking + 1;
                 }
             }
-            return sum;
         }
 
         /** Whether the maps from this one on can make all that was lost big again: each makes but one place bigger. */
@@ -1495,22 +1489,32 @@ public final class HungryMaps {
             return (lost & ~within) == 0 && Integer.bitCount(lost) <= menders;
         }
 
-        private boolean findSparing(int map, int left) {
+        /** Tries what this map and those behind it may get; only a way of fewer than yet takes the place of an earlier one. */
+        private void findSparing(int map, int used) {
+            int left = fewestYet - 1 - used;
             int lost = engine.smaller(desk[0], desk[map]) & spared;
             if (!canMend(lost, map, left)) {
-                return false;
+                return;
             }
             if (map >= engine.house.maps) {
-                return left == 0;
+                fewestYet = used;
+                layWay();
+                return;
             }
             int most = Math.min(left, mostUse[map]);
-            for (int n = leastFor(map, left); n <= most; n++) {
+            boolean isLast = map == engine.house.maps - 1;
+            for (int turn = 0; turn <= most; turn++) {
+                // More for the last map makes no place smaller: from the most downwards, till one way does not spare.
+                int n = isLast ? most - turn : turn;
+                if (used + n >= fewestYet) {
+                    return;
+                }
                 serve(map, n);
-                if (findSparing(map + 1, left - n)) {
-                    return true;
+                findSparing(map + 1, used + n);
+                if (isLast && fewestYet > used + n) {
+                    return;
                 }
             }
-            return false;
         }
 
         private void findKeeping(int map, int left) {
