@@ -712,6 +712,40 @@ public final class EdgesOfPromisesTest {
     HungryMaps v = Texts.house("food f 24;map a scale 1 hunger 6;map b scale 1 hunger 0;place p size 3 worth 1 on a b;place q size 3 worth 1 on a b;likes a f 0;");
     none("one is not enough", v.ration(0, 3));
     Texts.due("but for one of them", v.ration(0, 1), 3);
+    // The one that is in store fills b and leaves 1 over, just what a bites.
+    HungryMaps s = Texts.house("food f 1;map a scale 1 hunger 1;map b scale 1 hunger 2;place p size 9 worth 1 on a b;likes a f 0;likes b f 3;");
+    Texts.due("all that is in store", s.ration(0, 1), 1);
+    lying(s, "all that is in store", 0, 1);
+    rationWaysInTurn();
+  }
+
+  private static void rationWaysInTurn() {
+    Texts.by("RATION: the fewest together; of like ones the first (MAP by MAP, the fewest first)");
+    // With none for a, b needs 9: 7 for itself, and 2 over for what a bites.
+    String maps = "food f 24;map a scale 1 hunger 2;map b scale 1 hunger 7;map c scale 1 hunger 7;";
+    HungryMaps x = Texts.house(maps + "place p size 9 worth 1 on a b;place q size 60 worth 1 on b c;");
+    Texts.due("a is fed", x.ration(0, 1), 2);
+    lying(x, "a is fed", 2, 0, 0);
+    x.fold(1);
+    // b, which fasts, makes p bigger by all that it gets: as many, and a gets fewer.
+    Texts.due("b mends", x.ration(0, 1), 2);
+    lying(x, "b mends", 0, 2, 0);
+    Texts.due("q by c", x.ration(0, 2), 7);
+    lying(x, "q by c", 0, 0, 7);
+    Texts.due("both", x.ration(0, 3), 9);
+    lying(x, "both", 0, 2, 7);
+    // Three ways of 3: the last map's is the first of them.
+    HungryMaps y = Texts.house("food f 24;map a scale 1 hunger 3;map b scale 1 hunger 0;map c scale 1 hunger 0;place p size 9 worth 1 on a b c;");
+    Texts.due("three ways", y.ration(0, 1), 3);
+    lying(y, "the last map's", 0, 0, 3);
+    HungryMaps z = Texts.house("food f 24;map a scale 1 hunger 3;map b scale 1 hunger 0;map c scale 1 hunger 0;place p size 9 worth 1 on a b c;likes c f 0;");
+    Texts.due("two ways", z.ration(0, 1), 3);
+    lying(z, "the second map's", 0, 3, 0);
+    // Later ways of fewer take its place: 3 for c, 2 for b (twice), 1 for a (thrice).
+    HungryMaps w = Texts.house("food f 24;map a scale 1 hunger 3;map b scale 1 hunger 0;map c scale 1 hunger 0;place p size 9 worth 1 on a b c;"
+        + "likes a f 3;likes b f 2;");
+    Texts.due("one way", w.ration(0, 1), 1);
+    lying(w, "the first map's", 1, 0, 0);
   }
 
   private static void keep() {

@@ -6,8 +6,10 @@ import java.nio.charset.StandardCharsets;
 import java.nio.file.Files;
 import java.nio.file.Path;
 import java.util.Arrays;
+import java.util.Map;
 import java.util.Random;
 import java.util.Set;
+import java.util.TreeMap;
 import java.util.TreeSet;
 import java.util.regex.Matcher;
 import java.util.regex.Pattern;
@@ -20,6 +22,9 @@ public final class FaceTest {
       + "doom:int(int) bitten:int() gone:int() land:int(int) ration:int(int,int) keep:int(int,int) folds:int(int,int) drawers:int(int) "
       + "least:int() bites:int() odds:int(int,int,int) lies:int(int) trial:int(int,int,int,int,boolean) untell:boolean(int) later:int(int) "
       + "fit:int(int) sure:int(int,int) ask:int(int,int,int) image:int(int) back:int(int) about:int(int)";
+
+  private static final Pattern METHOD = Pattern.compile("( +)(?!(?:if|for|while|switch|else|do|return)\\b)(?:(?:public|private|static|final) )*"
+      + "\\w+(?:\\[\\])*(?: \\w+)?\\(.*\\{");
 
   public static void main(String[] args) throws Exception {
     face();
@@ -89,14 +94,38 @@ public final class FaceTest {
     while (imports.find()) Texts.due("import of " + imports.group(1), imports.group(1).matches("java\\.util\\.(Arrays|ArrayList|List)"), true);
     for (int i = 0; i < text.length(); i++) if (text.charAt(i) > 126) Texts.due("sign " + i + " is plain", text.charAt(i), 126);
     String[] lines = text.split("\n");
+    Map<String, Set<String>> calls = new TreeMap<>();
     int start = -1;
+    String end = "";
     for (int i = 0; i < lines.length; i++) {
-      if (lines[i].matches("( {4}| {8})(public |private |static |final )*\\w+(\\[\\])* ?\\w*\\(.*\\{")) start = i;
-      if (start >= 0 && lines[i].matches("( {4}| {8})}")) {
+      Matcher head = METHOD.matcher(lines[i]);
+      if (start < 0 && head.matches()) {
+        start = i;
+        end = head.group(1) + "}";
+      }
+      if (start >= 0 && lines[i].equals(end)) {
         Texts.due("lines of " + lines[start].trim() + " (" + (i - start + 1) + ") are sixty at most", i - start + 1 <= 60, true);
+        Matcher names = Pattern.compile("(\\w+)\\(").matcher(String.join("\n", Arrays.copyOfRange(lines, start, i)));
+        names.find();
+        Set<String> called = calls.computeIfAbsent(names.group(1), name -> new TreeSet<>());
+        while (names.find()) called.add(names.group(1));
         start = -1;
       }
     }
+    Texts.due("methods are found", calls.size() > 60, true);
+    for (String name : calls.keySet()) {
+      int deep = deepest(calls, name, new TreeSet<>());
+      Texts.due("calls from " + name + " go eight deep at most (" + deep + ")", deep <= 8, true);
+    }
+  }
+
+  /** How many calls stand open at most below a method, itself too, where none stands twice. */
+  private static int deepest(Map<String, Set<String>> calls, String name, Set<String> open) {
+    if (!calls.containsKey(name) || !open.add(name)) return 0;
+    int most = 0;
+    for (String called : calls.get(name)) most = Math.max(most, deepest(calls, called, open));
+    open.remove(name);
+    return most + 1;
   }
 
   /** Calls in any order with any numbers, in houses that use most of what there is. */
